@@ -1,0 +1,102 @@
+/** What the tests share: answers that are due, and texts fed as the tape wants them. */
+final class Check {
+    private static int wrong = 0;
+
+    private Check() {
+    }
+
+    static void due(String what, long got, long want) {
+        if (got != want) {
+            wrong++;
+            System.out.println(what + " answered " + got + ", due is " + want);
+        }
+    }
+
+    static void due(String what, boolean got, boolean want) {
+        due(what, got ? 1 : 0, want ? 1 : 0);
+    }
+
+    /** A call that answered NONE, and must have left this status. */
+    static void refused(String what, NineNames x, long got, int status) {
+        due(what, got, NineNames.NONE);
+        due(what + ", its status", x.status(), status);
+    }
+
+    static void refused(String what, NineNames x, boolean got, int status) {
+        due(what, got, false);
+        due(what + ", its status", x.status(), status);
+    }
+
+    /** A call that answered a number, and must have left status 0. */
+    static void fine(String what, NineNames x, long got, long want) {
+        due(what, got, want);
+        due(what + ", its status", x.status(), 0);
+    }
+
+    static void fine(String what, NineNames x, boolean got) {
+        due(what, got, true);
+        due(what + ", its status", x.status(), 0);
+    }
+
+    static void fraction(String what, NineNames x, long top, long bottom) {
+        due(what + ", its top", x.top(), top);
+        due(what + ", its bottom", x.bottom(), bottom);
+    }
+
+    static int feed(NineNames x, String text) {
+        int taped = NineNames.NONE;
+        for (int i = 0; i < text.length(); i += 20) {
+            int[] v = new int[5];
+            for (int k = 0; k < 20; k++) {
+                int c = i + k < text.length() ? text.charAt(i + k) & 255 : ' ';
+                v[k / 4] = v[k / 4] << 8 | c;
+            }
+            taped = x.feed(v[0], v[1], v[2], v[3], v[4]);
+        }
+        return taped;
+    }
+
+    static int town(NineNames x, String text) {
+        feed(x, text);
+        return x.town(text.length());
+    }
+
+    static int centuries(NineNames x, String text) {
+        feed(x, text);
+        return x.centuries(text.length());
+    }
+
+    static NineNames with(String text) {
+        NineNames x = new NineNames();
+        if (town(x, text) == NineNames.NONE) {
+            wrong++;
+            System.out.println("not taken, fault " + x.fault(0) + " at " + x.fault(1) + ": " + text);
+        }
+        return x;
+    }
+
+    static NineNames with(String text, String steps) {
+        NineNames x = with(text);
+        if (centuries(x, steps) == NineNames.NONE) {
+            wrong++;
+            System.out.println("not taken, fault " + x.fault(0) + " at " + x.fault(1) + ": " + steps);
+        }
+        return x;
+    }
+
+    /** A set of persons as the calls tell it. */
+    static int set(int... persons) {
+        int bits = 0;
+        for (int p : persons) {
+            bits |= 1 << p;
+        }
+        return bits;
+    }
+
+    static void end() {
+        if (wrong != 0) {
+            System.out.println(wrong + " answers are not as due");
+            System.exit(1);
+        }
+    }
+}
