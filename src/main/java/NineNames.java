@@ -555,7 +555,7 @@ public final class NineNames {
         if (!town.hasPerson(person)) {
             return refuse(NO_SUCH);
         }
-        return answer(Weddings.free(town, person));
+        return answer(Weddings.suitableFor(town, person));
     }
 
     // ---- RINGS
@@ -1156,9 +1156,10 @@ public final class NineNames {
         }
 
         private boolean isGrown(int p) {
-            return died[p] == NONE && year - born[p] >= GROWN;
+            return lives(p) && year - born[p] >= GROWN;
         }
 
+        /** The set of those who live. */
         int living() {
             return ((1 << persons) - 1) & ~told(died);
         }
@@ -2023,29 +2024,29 @@ public final class NineNames {
                 depth++;
             }
             script.steps++;
-            return rest(what);
+            return readRest(what);
         }
 
-        private boolean rest(int key) {
+        private boolean readRest(int key) {
             switch (key) {
-                case Reader.YEAR: return numbered(key, 20);
-                case Reader.LOOP: return numbered(key, 99);
+                case Reader.YEAR: return numberUpTo(key, 20);
+                case Reader.LOOP: return numberUpTo(key, 99);
                 case Reader.DIE:
-                case Reader.DASH: return one(key);
+                case Reader.DASH: return onePerson(key);
                 case Reader.BEARS: return bearsTest();
                 case Reader.FREE: return freeTest();
                 case Reader.ANY:
-                case Reader.STOP: return bare(key);
-                default: return pair(key);
+                case Reader.STOP: return wordAlone(key);
+                default: return twoPersons(key);
             }
         }
 
-        private boolean bare(int key) {
+        private boolean wordAlone(int key) {
             script.add(key, NONE, NONE, 0);
             return true;
         }
 
-        private boolean numbered(int key, int most) {
+        private boolean numberUpTo(int key, int most) {
             int n = reader.takeNumber(1, most);
             if (n == NONE) {
                 return false;
@@ -2070,7 +2071,7 @@ public final class NineNames {
             return s;
         }
 
-        private boolean one(int key) {
+        private boolean onePerson(int key) {
             int p = takePerson();
             if (p == NONE) {
                 return false;
@@ -2079,7 +2080,7 @@ public final class NineNames {
             return true;
         }
 
-        private boolean pair(int key) {
+        private boolean twoPersons(int key) {
             int p = takePerson();
             if (p == NONE) {
                 return false;
@@ -2215,7 +2216,7 @@ public final class NineNames {
 
         private boolean act(Town town, int op, int one, int two) {
             switch (op) {
-                case Reader.YEAR: return age(town, one);
+                case Reader.YEAR: return letYearsPass(town, one);
                 case Reader.DIE: return bury(town, one);
                 case Reader.BIRTH: return bear(town, one, two);
                 case Reader.WED: return marry(town, one, two);
@@ -2225,7 +2226,7 @@ public final class NineNames {
             }
         }
 
-        private boolean age(Town town, int many) {
+        private boolean letYearsPass(Town town, int many) {
             if (town.year + many > LAST_YEAR) {
                 return false;
             }
@@ -2301,7 +2302,7 @@ public final class NineNames {
         // For each set of persons the most couples within it.
         private final byte[] best = new byte[1 << Town.PERSONS];
 
-        static int free(Town town, int p) {
+        static int suitableFor(Town town, int p) {
             int set = 0;
             for (int q = 0; q < town.persons; q++) {
                 if (town.canMarry(p, q, 0)) {
@@ -2329,7 +2330,7 @@ public final class NineNames {
             int all = 0;
             for (int p = 0; p < town.persons; p++) {
                 int others = (bearers >> p & 1) != 0 ? town.living() : bearers;
-                mates[p] = free(town, p) & others;
+                mates[p] = suitableFor(town, p) & others;
                 all |= mates[p];
             }
             best[0] = 0;

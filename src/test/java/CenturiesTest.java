@@ -159,6 +159,12 @@ public final class CenturiesTest {
         NineNames y = Check.with(full.toString(), "birth pa pb;birth pa pb;");
         Check.fine("a 13th", y, y.live(0), 2);
         counted(y, 1, 0, 1, 0, 0);
+        y.live(0);
+        counted(y, 2, 0, 0, 0, 0);
+        Check.centuries(y, "wed pa pb;");
+        y.live(0);
+        counted(y, 0, 0, 0, 0, 0);
+        Check.fine("they are wed", y, y.many(8), 3);
         NineNames z = Check.with("person a born 1700;person b born 1700;", "any;any;any;");
         Check.fine("none is left", z, z.live(5), 3);
         counted(z, 1, 0, 0, 2, 0);
@@ -209,6 +215,9 @@ public final class CenturiesTest {
         NineNames z = Check.with(TOWN, "any;any;loop 99;any;any;any;end;");
         Check.fine("just 300", z, z.live(0), 300);
         Check.fine("none is left", z, z.lived(4), 0);
+        Check.centuries(y, "stop;");
+        y.live(0);
+        Check.fine("none is left now", y, y.lived(4), 0);
         NineNames w = Check.with(TOWN, "any;any;loop 99;any;any;any;end;stop;");
         Check.fine("300", w, w.live(0), 300);
         Check.fine("the stop is left", w, w.lived(4), 1);

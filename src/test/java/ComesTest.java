@@ -115,6 +115,7 @@ public final class ComesTest {
         Check.refused("no such", x, x.luck(2, 99, 99), 2);
         Check.refused("13", x, x.luck(0, 13, 0), 5);
         Check.refused("-1", x, x.luck(0, -1, 0), 5);
+        Check.fine("12 of 3", x, x.luck(0, 12, 16));
         Check.refused("17 sixteenths", x, x.luck(0, 0, 17), 5);
         Check.refused("-1 sixteenths", x, x.luck(0, 0, -1), 5);
         Check.fraction("as at first", x, 0, 1);

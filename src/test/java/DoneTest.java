@@ -304,6 +304,7 @@ public final class DoneTest {
         Check.fine("second", x, x.ask(3, 0), 2);
         Check.fine("for another, at the end", x, x.ask(2, 1), 2);
         Check.fine("who is first now", x, x.waiting(0, 0), 3);
+        Check.fine("for smith", x, x.waiting(0, 1), 0);
         Check.fine("who is second", x, x.waiting(1, 0), 2);
         Check.fine("for jones", x, x.waiting(1, 1), 1);
         Check.fine("one with a place", x, x.ask(0, 2), 1);
@@ -386,6 +387,16 @@ public final class DoneTest {
         Check.refused("far beyond", x, x.wish(0, 1, 1), 5);
         Check.fine("none", x, x.wish(0, 0, 0));
         Check.refused("likes nothing", x, x.liked(0, 0), 8);
+        x.tray(2, 0, 1);
+        Check.fine("all that a tray has", x, x.wish(0, 2, 1));
+        NineNames y = Check.with("name a;name b;name c;name d;name e;name f;person p born 1700;person q born 1700;");
+        y.tray(0, 0, 6);
+        for (int k = 0; k < 6; k++) {
+            y.write(0, k, 5 - k);
+        }
+        Check.fine("six", y, y.wish(0, 0, 6));
+        Check.fine("the sixth", y, y.liked(0, 5), 0);
+        Check.refused("no other one's", y, y.liked(1, 0), 8);
         x.die(1);
         Check.fine("the dead may wish", x, x.wish(1, 0, 1));
         Check.fine("lee", x, x.liked(1, 0), 2);

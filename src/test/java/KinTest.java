@@ -34,6 +34,9 @@ public final class KinTest {
         NineNames x = Check.with(TOWN);
         Check.fine("children of b", x, x.children(1), Check.set(2, 3));
         Check.fine("children of e", x, x.children(4), 0);
+        NineNames y = Check.with("person a born 1700;person b born 1700;person c born 1700;child a of b c;");
+        Check.fine("children of b", y, y.children(1), Check.set(0));
+        Check.fine("from c to b by a", y, y.kin(2, 1), 2);
         Check.refused("nobody's children", x, x.children(8), 2);
         Check.fine("elders of e", x, x.elders(4), Check.set(0, 1, 2, 3, 5));
         Check.fine("elders of c", x, x.elders(2), Check.set(0, 1));

@@ -230,6 +230,16 @@ public final class TextsTest {
         Check.fine("centuries stay", x, x.live(0), 1);
         Check.fine("a good one", x, Check.town(x, PEOPLE + "waits cid for lee; waits bob for lee;"), 3);
         Check.refused("no centuries", x, x.live(0), 8);
+        x.mark();
+        Check.fine("nobody is what another one was", x, Check.town(x, NAMES + "person d born 1700;person e born 1700;"
+                + "person f born 1700;"), 3);
+        for (int p = 0; p < 3; p++) {
+            Check.fine("no coins", x, x.person(p, 3), 0);
+            Check.fine("no miser", x, x.person(p, 8), 0);
+            Check.refused("dash", x, x.person(p, 2), 8);
+            Check.refused("no likes", x, x.liked(p, 0), 8);
+        }
+        x.back();
         Check.fine("all live", x, x.many(2), 7);
         Check.fine("nobody is abroad", x, x.many(9), 0);
         Check.refused("never sold", x, x.surname(0, 3), 8);

@@ -59,6 +59,10 @@ public final class WorthTest {
         x.die(3);
         // b s, c none, a t, e none
         Check.fine("without d by 1", x, x.recount(1), 2);
+        NineNames y = Check.with("name s;name t;person a born 1780 of s;person b born 1780 of s;likes b t;");
+        Check.fine("of the same year by number", y, y.recount(1), 0);
+        NineNames z = Check.with("name s;name t;person a born 1781 of s;person b born 1780 of s;likes b t;");
+        Check.fine("by the year first", z, z.recount(1), 1);
         Check.fine("of nobody", new NineNames(), new NineNames().recount(9), 0);
     }
 }
