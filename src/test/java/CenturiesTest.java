@@ -225,7 +225,7 @@ public final class CenturiesTest {
 
     private static void draws() {
         // seed 0: s = 10709, 10709 / 8 = 1338, by 4 rests 2: cid.
-        // s = (10709 * 2971 + 10709) mod 65536 = 42228, / 8 = 5278, by 3 rests 1: bob of ann, bob, dot.
+        // s = (10709 * 2971 + 10709) mod 65536 = 42188, / 8 = 5273, by 3 rests 2: dot of ann, bob, dot.
         int s = 0;
         int[] alive = {0, 1, 2, 3};
         int count = 4;
@@ -253,7 +253,7 @@ public final class CenturiesTest {
             Check.fine("who is left behind " + (k + 1), y, y.many(2), left);
         }
         NineNames z = Check.with(TOWN, "any;");
-        // s = (9999 * 2971 + 10709) mod 65536 = 30001 ..
+        // s = (9999 * 2971 + 10709) mod 65536 = 29930
         int first = (int) ((9999L * 2971 + 10709) % 65536) / 8 % 4;
         Check.fine("seed 9999", z, z.live(9999), 1);
         Check.fine("by it", z, z.many(2), 15 & ~(1 << first));

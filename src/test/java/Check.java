@@ -1,14 +1,21 @@
 /** What the tests share: answers that are due, and texts fed as the tape wants them. */
 final class Check {
     private static int wrong = 0;
+    private static String said = "";
 
     private Check() {
+    }
+
+    /** The sentence of the document that the checks behind this hold the class to; QuotesTest looks for it there. */
+    static void says(String sentence) {
+        said = sentence;
     }
 
     static void due(String what, long got, long want) {
         if (got != want) {
             wrong++;
-            System.out.println(what + " answered " + got + ", due is " + want);
+            System.out.println(what + " answered " + got + ", due is " + want
+                    + (said.isEmpty() ? "" : ", as the document says: " + said));
         }
     }
 
@@ -82,6 +89,31 @@ final class Check {
             System.out.println("not taken, fault " + x.fault(0) + " at " + x.fault(1) + ": " + steps);
         }
         return x;
+    }
+
+    /** A text whose fault stands at a mark |, which is taken out of it, in place of a town that must stay. */
+    static void townFault(int kind, String marked) {
+        NineNames x = with("year 1801;name old;person mia born 1799 of old coins 3;");
+        int place = marked.indexOf('|');
+        String text = marked.substring(0, place) + marked.substring(place + 1);
+        refused("town: " + text, x, town(x, text), 10);
+        due("the fault of " + text, x.fault(0), kind);
+        due("its place in " + text, x.fault(1), place);
+        due("the old year", x.many(4), 1801);
+        due("the old one's coins", x.person(0, 3), 3);
+        due("the tape is empty behind " + text, x.feed(0, 0, 0, 0, 0), 20);
+    }
+
+    /** Likewise of centuries. */
+    static void centuriesFault(int kind, String town, String marked) {
+        NineNames x = with(town, "stop;");
+        int place = marked.indexOf('|');
+        String text = marked.substring(0, place) + marked.substring(place + 1);
+        refused("centuries: " + text, x, centuries(x, text), 10);
+        due("the fault of " + text, x.fault(0), kind);
+        due("its place in " + text, x.fault(1), place);
+        fine("the old ones stay", x, x.live(0), 1);
+        due("the tape is empty behind " + text, x.feed(0, 0, 0, 0, 0), 20);
     }
 
     /** A set of persons as the calls tell it. */
