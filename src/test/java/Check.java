@@ -53,14 +53,27 @@ final class Check {
     static int feed(NineNames x, String text) {
         int taped = NineNames.NONE;
         for (int i = 0; i < text.length(); i += 20) {
-            int[] v = new int[5];
-            for (int k = 0; k < 20; k++) {
-                int c = i + k < text.length() ? text.charAt(i + k) & 255 : ' ';
-                v[k / 4] = v[k / 4] << 8 | c;
-            }
+            int[] v = twenty(text, i);
             taped = x.feed(v[0], v[1], v[2], v[3], v[4]);
         }
         return taped;
+    }
+
+    static void feed(Model x, String text) {
+        for (int i = 0; i < text.length(); i += 20) {
+            int[] v = twenty(text, i);
+            x.feed(v[0], v[1], v[2], v[3], v[4]);
+        }
+    }
+
+    /** Twenty bytes of a text from one on, blanks behind its end, the highest of each int first. */
+    static int[] twenty(String text, int from) {
+        int[] v = new int[5];
+        for (int k = 0; k < 20; k++) {
+            int c = from + k < text.length() ? text.charAt(from + k) & 255 : ' ';
+            v[k / 4] = v[k / 4] << 8 | c;
+        }
+        return v;
     }
 
     static int town(NineNames x, String text) {
@@ -89,6 +102,15 @@ final class Check {
             System.out.println("not taken, fault " + x.fault(0) + " at " + x.fault(1) + ": " + steps);
         }
         return x;
+    }
+
+    /** So many persons pa, pb .. born 1700, with what else is told of each. */
+    static String people(int many, String tail) {
+        StringBuilder text = new StringBuilder();
+        for (int k = 0; k < many; k++) {
+            text.append("person p").append((char) ('a' + k)).append(" born 1700").append(tail).append(';');
+        }
+        return text.toString();
     }
 
     /** A text whose fault stands at a mark |, which is taken out of it, in place of a town that must stay. */

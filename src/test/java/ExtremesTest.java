@@ -31,9 +31,9 @@ public final class ExtremesTest {
     private void renew() {
         x = Check.with(TOWN, "any;loop 3;year 1;birth a c;end;");
         model = new Model();
-        modelReads(TOWN);
+        Check.feed(model, TOWN);
         model.town(TOWN.length());
-        modelReads("any;loop 3;year 1;birth a c;end;");
+        Check.feed(model, "any;loop 3;year 1;birth a c;end;");
         model.centuries("any;loop 3;year 1;birth a c;end;".length());
         x.tray(0, 0, 60);
         model.tray(0, 0, 60);
@@ -42,16 +42,6 @@ public final class ExtremesTest {
         x.tray(2, 3, 3);
         model.tray(2, 3, 3);
         made = 0;
-    }
-
-    private void modelReads(String text) {
-        for (int i = 0; i < text.length(); i += 20) {
-            int[] v = new int[5];
-            for (int k = 0; k < 20; k++) {
-                v[k / 4] = v[k / 4] << 8 | (i + k < text.length() ? text.charAt(i + k) : ' ');
-            }
-            model.feed(v[0], v[1], v[2], v[3], v[4]);
-        }
     }
 
     private void mixtures(Method m, List<Object> with) throws ReflectiveOperationException {

@@ -28,14 +28,6 @@ public final class PromisesAskedTest {
         Check.end();
     }
 
-    private static String twelve(String tail) {
-        StringBuilder text = new StringBuilder();
-        for (char c = 'a'; c <= 'l'; c++) {
-            text.append("person p").append(c).append(" born 1700").append(tail).append(';');
-        }
-        return text.toString();
-    }
-
     private static void promise33() {
         Check.says("TURN (2; 8: he does not WAIT, or not in 150 YEARS).");
         Rows.on(TOWN, "turn(5) !2", "turn(-1) !2", "turn(0) !8", "turn(3) = 30", "die(0) = 4", "turn(3) !8", "die(3) = 3", "turn(3) !8");
@@ -62,7 +54,7 @@ public final class PromisesAskedTest {
         Check.says("How many live as DASH in so many YEARS (0 to 150) (5).");
         Rows.on(TOWN, "dashesIn(0) = 2", "dashesIn(29) = 2", "dashesIn(30) = 1", "dashesIn(150) = 1", "dashesIn(151) !5", "dashesIn(-1) !5",
                 "abroad(2,true) = true", "dashesIn(6) = 2", "dashesIn(7) = 3");
-        Rows.on(twelve(""), "dashesIn(0) = 12", "dashesIn(1) = 0", "livingIn(0) = 4095");
+        Rows.on(Check.people(12, ""), "dashesIn(0) = 12", "dashesIn(1) = 0", "livingIn(0) = 4095");
     }
 
     private static void promise38() {
@@ -88,7 +80,7 @@ public final class PromisesAskedTest {
         Check.says("COUPLES OF a SURNAME: how many (2).");
         Rows.on(TOWN, "couplesOf(3) !2", "couplesOf(-1) !2", "couplesOf(0) = 0", "couplesOf(1) = 1", "couplesOf(2) = 0", "part(0,1) = true",
                 "couplesOf(0) = 1", "year(1) = {}", "couplesOf(0) = 2", "die(0) = 4", "couplesOf(0) = 2", "couplesOf(1) = 1");
-        Rows.on("name s;name t;" + twelve(""), "couples() = 6", "couplesOf(1) = 0", "ask(0,0) = 0", "ask(5,0) = 0", "ask(11,0) = 0",
+        Rows.on("name s;name t;" + Check.people(12, ""), "couples() = 6", "couplesOf(1) = 0", "ask(0,0) = 0", "ask(5,0) = 0", "ask(11,0) = 0",
                 "couplesOf(0) = 3", "couplesOf(1) = 0");
     }
 
@@ -100,7 +92,7 @@ public final class PromisesAskedTest {
         Check.says("The set of PERSONS whom one can WED by way 0 (2).");
         Rows.on(TOWN, "suitors(5) !2", "suitors(-1) !2", "suitors(0) = {}", "suitors(2) = {4}", "suitors(3) = {}", "suitors(4) = {2}",
                 "year(1) = {}", "suitors(4) = {2,3}", "part(0,1) = true", "suitors(4) = {0,1,2,3}", "suitors(0) = {1,3,4}");
-        Rows.on(twelve(""), "suitors(11) = {0,1,2,3,4,5,6,7,8,9,10}", "match(0) !8");
+        Rows.on(Check.people(12, ""), "suitors(11) = {0,1,2,3,4,5,6,7,8,9,10}", "match(0) !8");
     }
 
     private static void promises44And45() {
@@ -139,12 +131,12 @@ public final class PromisesAskedTest {
         Check.says("The set of those from whom a PERSON comes: parents, theirs, and so on (2).");
         Rows.on(TOWN, "elders(5) !2", "elders(-1) !2", "elders(0) = {}", "elders(2) = {0,1}", "birth(2,4) = 5", "elders(5) = {0,1,2,4}", "year(16) = {}",
                 "birth(5,3) = 6", "elders(6) = {0,1,2,3,4,5}", "die(0) = 6", "elders(6) = {0,1,2,3,4,5}");
-        StringBuilder chain = new StringBuilder(twelve(""));
+        StringBuilder chain = new StringBuilder(Check.people(12, ""));
         for (char c = 'l'; c > 'b'; c--) {
             chain.append("child p").append(c).append(" of p").append((char) (c - 1)).append(" p").append((char) (c - 2)).append(';');
         }
         Rows.on(chain.toString(), "elders(11) = {0,1,2,3,4,5,6,7,8,9,10}", "elders(2) = {0,1}", "children(0) = {2}");
-        StringBuilder line = new StringBuilder(twelve(""));
+        StringBuilder line = new StringBuilder(Check.people(12, ""));
         for (char c = 'c'; c <= 'l'; c++) {
             line.append("child p").append(c).append(" of p").append((char) (c - 1)).append(" pa;");
         }
@@ -177,7 +169,7 @@ public final class PromisesAskedTest {
         Rows.on(TOWN, "richest() = 0", "earn(2,25) = 60", "richest() = 0", "earn(2,1) = 61", "richest() = 2", "die(2) = 4", "richest() = 0",
                 "die(0) = 3", "richest() = 1", "die(1) = 2", "die(3) = 1", "richest() = 4", "die(4) = 0", "richest() !8");
         Rows.on("person a born 1700;person b born 1700;", "richest() = 0", "die(0) = 1", "richest() = 1");
-        Rows.on("name s;name t;" + twelve(" coins 9"), "richest() = 0", "earn(11,1) = 10", "richest() = 11", "wealth(11) = 10");
+        Rows.on("name s;name t;" + Check.people(12, " coins 9"), "richest() = 0", "earn(11,1) = 10", "richest() = 11", "wealth(11) = 10");
         // One who was rich once, in a town that was gone back from, is nobody now.
         Rows.on("person a born 1700;person b born 1700 coins 1;", "mark() = 1", "birth(0,1) = 2", "earn(2,9) = 9", "richest() = 2", "back() = 0",
                 "richest() = 1");
@@ -193,7 +185,7 @@ public final class PromisesAskedTest {
 
     private static void promise57() {
         Check.says("RECOUNT by a MOST (1 to 9): how many are DASH (5).");
-        Rows.on("name s;name t;" + twelve(""), "ask(0,0) = 0", "ask(1,0) = 0", "ask(2,0) = 0", "ask(3,0) = 0", "ask(4,0) = 0", "ask(5,0) = 0",
+        Rows.on("name s;name t;" + Check.people(12, ""), "ask(0,0) = 0", "ask(1,0) = 0", "ask(2,0) = 0", "ask(3,0) = 0", "ask(4,0) = 0", "ask(5,0) = 0",
                 "ask(6,1) = 0", "ask(7,1) = 0", "ask(8,1) = 0", "ask(9,1) = 0", "ask(10,1) = 0", "ask(11,1) = 0", "recount(9) = 0",
                 "recount(6) = 0", "recount(5) = 2", "recount(1) = 10", "earn(11,10) = 10", "buyers(0) = {11}", "buyers(1) = {}",
                 "earn(0,10) = 10", "buyers(1) = {0}");
@@ -242,7 +234,7 @@ public final class PromisesAskedTest {
         Rows.on(TOWN, "back() !8", "mark() = 1", "die(0) = 4", "mark() = 2", "die(1) = 3", "back() = 1", "many(2) = {1,2,3,4}", "back() = 0",
                 "many(2) = {0,1,2,3,4}", "back() !8", "many(2) = {0,1,2,3,4}");
         // All of twelve is kept, to the last one's likes and name.
-        Rows.on("name s;name t;" + twelve("") + "likes pl t s;waits pl for t;", "centuries: die pl; = 1", "mark() = 1", "town: name z; = 0",
+        Rows.on("name s;name t;" + Check.people(12, "") + "likes pl t s;waits pl for t;", "centuries: die pl; = 1", "mark() = 1", "town: name z; = 0",
                 "back() = 0", "liked(11,0) = 1", "liked(11,1) = 0", "waiting(0,0) = 11", "centuries: die pl;die pg; = 2", "live(0) = 2",
                 "many(2) = {0,1,2,3,4,5,7,8,9,10}", "lived(0) = 0");
         // A mark outlives a town, and is not gone with it.

@@ -158,15 +158,7 @@ public final class RandomRunsTest {
         }
         said.add("# " + text);
         for (int i = 0; i < text.length() && !wrong; i += 20) {
-            Object[] v = new Object[5];
-            for (int k = 0; k < 5; k++) {
-                int four = 0;
-                for (int c = i + 4 * k; c < i + 4 * k + 4; c++) {
-                    four = four << 8 | (c < text.length() ? text.charAt(c) & 255 : ' ');
-                }
-                v[k] = four;
-            }
-            call("feed", v);
+            call("feed", Arrays.stream(Check.twenty(text, i)).boxed().toArray());
         }
         if (!wrong) {
             call(name, text.length());
@@ -230,7 +222,7 @@ public final class RandomRunsTest {
         String left = text;
         for (int round = 0; round < 60; round++) {
             Model trial = new Model();
-            feedModel(trial, left);
+            Check.feed(trial, left);
             if (trial.town(left.length()) >= 0) {
                 return left;
             }
@@ -243,16 +235,6 @@ public final class RandomRunsTest {
             left = left.substring(0, from) + left.substring(to + 1);
         }
         return left;
-    }
-
-    private static void feedModel(Model m, String text) {
-        for (int i = 0; i < text.length(); i += 20) {
-            int[] v = new int[5];
-            for (int k = 0; k < 20; k++) {
-                v[k / 4] = v[k / 4] << 8 | (i + k < text.length() ? text.charAt(i + k) & 255 : ' ');
-            }
-            m.feed(v[0], v[1], v[2], v[3], v[4]);
-        }
     }
 
     private String fit(String text, int most) {

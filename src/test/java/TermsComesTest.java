@@ -21,14 +21,6 @@ public final class TermsComesTest {
         Check.end();
     }
 
-    private static String people(int many, String tail) {
-        StringBuilder text = new StringBuilder();
-        for (int k = 0; k < many; k++) {
-            text.append("person p").append((char) ('a' + k)).append(" born 1700").append(tail).append(';');
-        }
-        return text.toString();
-    }
-
     private static void forecasts() {
         Check.says("FORECAST: as if only YEARS go by (2,999 does not matter).");
         Rows.on("year 2999;life 30;most 1;name s;person a born 2980 of s;person b born 2995;person c born 2999 miser;waits b for s;"
@@ -78,7 +70,7 @@ public final class TermsComesTest {
                 "luck(0,1,0) = true", "top() = 0", "bottom() = 1", "luck(0,3,16) = true", "top() = 1", "bottom() = 1",
                 "luck(0,4,16) = true", "top() = 0", "bottom() = 1", "luck(1,0,7) = true", "top() = 1", "bottom() = 1",
                 "luck(1,1,7) = true", "top() = 0", "bottom() = 1", "luck(0,12,16) = true", "top() = 0");
-        Rows.on("name s;" + people(9, " of s"), "luck(0,9,1) = true", "top() = 1", "bottom() = 68719476736", "luck(0,1,1) = true",
+        Rows.on("name s;" + Check.people(9, " of s"), "luck(0,9,1) = true", "top() = 1", "bottom() = 68719476736", "luck(0,1,1) = true",
                 "top() = 30276117361", "bottom() = 68719476736", "luck(0,10,16) = true", "top() = 0", "bottom() = 1",
                 "luck(0,9,16) = true", "top() = 1", "bottom() = 1", "luck(0,5,8) = true", "top() = 1", "bottom() = 2");
     }
@@ -87,7 +79,7 @@ public final class TermsComesTest {
         Check.says("COUPLES: the most couples of PERSONS that can be WED at once by way 0, nobody in two;");
         Rows.on("", "couples() = 0");
         Rows.on("person a born 1700;", "couples() = 0");
-        Rows.on(people(12, ""), "couples() = 6", "die(0) = 11", "couples() = 5", "wed(1,2,0) = true", "couples() = 4",
+        Rows.on(Check.people(12, ""), "couples() = 6", "die(0) = 11", "couples() = 5", "wed(1,2,0) = true", "couples() = 4",
                 "part(1,2) = true", "couples() = 5");
         // One who suits all, and all others near: only one couple.
         Rows.on("person m born 1700;person n born 1700;person a born 1750;person b born 1750;person c born 1750;person d born 1750;"
@@ -100,13 +92,13 @@ public final class TermsComesTest {
 
     private static void couplesOfASurname() {
         Check.says("OF a SURNAME: of whom one at least bears it.");
-        Rows.on("name s;name t;name u;" + people(5, " of s") + "person x born 1750 of t;person y born 1750;person z born 1750;",
+        Rows.on("name s;name t;name u;" + Check.people(5, " of s") + "person x born 1750 of t;person y born 1750;person z born 1750;",
                 "couplesOf(0) = 4", "couplesOf(1) = 1", "couplesOf(2) = 0", "couples() = 4", "wed(5,6,0) = true", "couplesOf(1) = 0",
                 "couplesOf(0) = 3", "die(0) = 7", "couplesOf(0) = 2");
-        Rows.on("name s;" + people(9, " of s") + "person x born 1700;person y born 1700;person z born 1700;", "couplesOf(0) = 6",
+        Rows.on("name s;" + Check.people(9, " of s") + "person x born 1700;person y born 1700;person z born 1700;", "couplesOf(0) = 6",
                 "couples() = 6");
-        Rows.on("name s;person x born 1700 of s;" + people(11, ""), "couplesOf(0) = 1", "couples() = 6");
-        Rows.on("name s;person x born 1700 of s;person y born 1700 of s;" + people(10, ""), "couplesOf(0) = 2");
+        Rows.on("name s;person x born 1700 of s;" + Check.people(11, ""), "couplesOf(0) = 1", "couples() = 6");
+        Rows.on("name s;person x born 1700 of s;person y born 1700 of s;" + Check.people(10, ""), "couplesOf(0) = 2");
     }
 
     private static void matches() {
@@ -201,7 +193,7 @@ public final class TermsComesTest {
 
     private static void kin() {
         Check.says("KIN: the fewest steps from CHILD to parent, or parent to CHILD, from one to another one.");
-        StringBuilder chain = new StringBuilder(people(12, ""));
+        StringBuilder chain = new StringBuilder(Check.people(12, ""));
         for (char c = 'a'; c < 'k'; c++) {
             chain.append("child p").append(c).append(" of p").append((char) (c + 1)).append(" p").append((char) (c + 2)).append(';');
         }
@@ -209,12 +201,12 @@ public final class TermsComesTest {
         Rows.on(chain.toString(), "kin(0,0) = 0", "kin(0,1) = 1", "kin(0,2) = 1", "kin(0,3) = 2", "kin(0,11) = 6", "kin(11,0) = 6",
                 "kin(0,10) = 5", "elders(0) = {1,2,3,4,5,6,7,8,9,10,11}", "elders(9) = {10,11}", "children(11) = {9}", "children(10) = {8,9}");
         // A way that goes up and down, over one born of two: p has two parents, each of whom has a child by another one.
-        Rows.on(people(11, "") + "child pb of pa pc;child pd of pc pe;child pf of pe pg;child ph of pg pi;child pj of pi pk;", "kin(0,10) = 10",
+        Rows.on(Check.people(11, "") + "child pb of pa pc;child pd of pc pe;child pf of pe pg;child ph of pg pi;child pj of pi pk;", "kin(0,10) = 10",
                 "kin(10,0) = 10", "kin(0,2) = 2", "kin(1,3) = 2", "kin(0,9) = 9", "die(5) = 10", "kin(0,10) = 10");
-        Rows.on(people(12, "") + "child pb of pa pc;child pd of pc pe;child pf of pe pg;child ph of pg pi;child pj of pi pk;child pk of pl pa;",
+        Rows.on(Check.people(12, "") + "child pb of pa pc;child pd of pc pe;child pf of pe pg;child ph of pg pi;child pj of pi pk;child pk of pl pa;",
                 "kin(0,10) = 1", "kin(0,9) = 2", "kin(11,9) = 2", "kin(5,10) = 5", "kin(11,5) = 6");
-        Rows.on(people(4, "") + "child pa of pb pc;", "kin(1,2) = 2", "kin(0,3) !8", "kin(3,3) = 0");
-        Rows.on(people(12, "") + "child pa of pb pc;child pc of pd pe;child pe of pf pg;child pg of ph pi;child pi of pj pk;child pk of pl pj;",
+        Rows.on(Check.people(4, "") + "child pa of pb pc;", "kin(1,2) = 2", "kin(0,3) !8", "kin(3,3) = 0");
+        Rows.on(Check.people(12, "") + "child pa of pb pc;child pc of pd pe;child pe of pf pg;child pg of ph pi;child pi of pj pk;child pk of pl pj;",
                 "kin(0,11) = 6", "kin(1,11) = 7", "kin(0,9) = 5");
     }
 
@@ -236,16 +228,16 @@ public final class TermsComesTest {
         Rows.on("name s;person c born 1800;person a born 1780;person b born 1780;person d born 1780 of s;person e born 1785;",
                 "couldBe(0,1,2) = 1", "couldBe(0,1,3) = 0", "couldBe(0,3,1) = 0", "couldBe(0,1,4) = 0", "parents(0) = 1", "die(1) = 4",
                 "parents(0) = 1", "swap(2,3) = true", "parents(0) = 1", "couldBe(0,1,3) = 1", "couldBe(0,1,2) = 0");
-        Rows.on("person x born 1800;" + people(11, ""), "parents(0) = 55", "parents(1) = 0");
+        Rows.on("person x born 1800;" + Check.people(11, ""), "parents(0) = 55", "parents(1) = 0");
     }
 
     private static void recount() {
         Check.says("RECOUNT by another MOST: all who live get SURNAMES anew,");
-        Rows.on("name s;" + people(9, " of s"), "recount(9) = 0", "recount(8) = 1", "recount(1) = 8", "die(0) = 8", "recount(8) = 0",
+        Rows.on("name s;" + Check.people(9, " of s"), "recount(9) = 0", "recount(8) = 1", "recount(1) = 8", "die(0) = 8", "recount(8) = 0",
                 "recount(1) = 7", "rule(1) = true", "recount(9) = 0");
-        Rows.on(people(12, ""), "recount(1) = 12");
+        Rows.on(Check.people(12, ""), "recount(1) = 12");
         Check.says("what they bear, if that has a PLACE yet, else the first of what they LIKE that has; how many are DASH.");
-        Rows.on("name s;name t;name u;" + people(5, " of s") + "likes pb t u;likes pc t u;likes pd t s;likes pe u t;person x born 1710;"
+        Rows.on("name s;name t;name u;" + Check.people(5, " of s") + "likes pb t u;likes pc t u;likes pd t s;likes pe u t;person x born 1710;"
                 + "likes x u;person y born 1720;", "recount(1) = 4", "recount(2) = 1", "recount(3) = 1", "recount(9) = 1");
         // Who is dash may get one; who bears one that is liked by none keeps it.
         Rows.on("name s;name t;person a born 1700;person b born 1701 of s;likes a s t;", "recount(1) = 1", "recount(2) = 0");

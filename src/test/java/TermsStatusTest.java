@@ -121,6 +121,9 @@ public final class TermsStatusTest {
                 "surname(0,2) = {0,1}", "centuries: loop 2; !10", "fault(0) = 2", "fault(1) = 7", "live(0) = 1", "many(4) = 1803",
                 "town(1) !5", "fault(0) = 2", "fault(1) = 7", "centuries(301) !5", "fault(0) = 2", "centuries:   = 0", "fault(0) = 0",
                 "fault(1) = -1", "fault(2) = -1", "fault(-1) = -1");
+        // Centuries that were refused are not those by which all is lived, or a mean is told.
+        Rows.on(TOWN, "centuries: die dot; = 1", "centuries: year 1;loop 2; !10", "mean(0,3) = true", "top() = 0", "bottom() = 1", "live(0) = 1",
+                "many(2) = {0,1,2,4}", "many(4) = 1800", "mark() = 1", "centuries: year 1;year 1; = 2", "back() = 0", "live(0) = 1", "lived(0) = 1");
         NineNames x = Check.with(TOWN);
         Check.feed(x, "name");
         Check.refused("5 leaves the tape", x, x.town(21), 5);

@@ -38,14 +38,6 @@ public final class TermsTextTest {
         Check.townFault(kind, marked);
     }
 
-    private static String people(int many, String tail) {
-        StringBuilder text = new StringBuilder();
-        for (int k = 0; k < many; k++) {
-            text.append("person p").append((char) ('a' + k)).append(" born 1700").append(tail).append(';');
-        }
-        return text.toString();
-    }
-
     private static void trays() {
         Check.says("TRAYS, 0 to 3, are MISSING at first");
         Rows.on("", "read(0,0) !3", "read(1,0) !3", "read(2,0) !3", "read(3,0) !3", "read(4,0) !1", "read(-1,0) !1",
@@ -268,8 +260,8 @@ public final class TermsTextTest {
     private static void persons() {
         Check.says("PERSONS, at most 12: BORN in a YEAR (1000 to 2999; in the YEAR of the TOWN told so far at the latest), "
                 + "bears a SURNAME, or DASH (none);");
-        Rows.on(people(12, ""), "many(1) = 12", "person(11,0) = 1700", "person(12,0) !2");
-        fault(6, people(12, "") + "|person q born 1700;");
+        Rows.on(Check.people(12, ""), "many(1) = 12", "person(11,0) = 1700", "person(12,0) !2");
+        fault(6, Check.people(12, "") + "|person q born 1700;");
         Rows.on("person a born 1000;person b born 1800;", "person(0,1) = 800", "person(1,1) = 0");
         Rows.on("year 2999;person a born 2999;person b born 1000;", "person(0,1) = 0", "person(1,1) = 1999");
         Rows.on("year 1000;person a born 1000;", "person(0,1) = 0");
@@ -318,7 +310,7 @@ public final class TermsTextTest {
 
     private static void likesOfTheLast() {
         Check.says("LIKES: SURNAMES, the dearest first, each once (told again: the latest; none without).");
-        Rows.on("name s;name t;" + people(12, "") + "likes pl t s;likes pg s;", "liked(11,0) = 1", "liked(11,1) = 0", "liked(11,2) !8",
+        Rows.on("name s;name t;" + Check.people(12, "") + "likes pl t s;likes pg s;", "liked(11,0) = 1", "liked(11,1) = 0", "liked(11,2) !8",
                 "liked(6,0) = 0", "liked(6,1) !8", "liked(10,0) !8");
     }
 
@@ -326,7 +318,7 @@ public final class TermsTextTest {
         Check.says("WAITS: a PERSON WAITS for a SURNAME (at the end of the QUEUE).");
         Rows.on(PEOPLE + "waits dot for lee;waits ann for lee;waits cid for smith;", "many(7) = 3", "waiting(0,0) = 3",
                 "waiting(0,1) = 2", "waiting(1,0) = 0", "waiting(1,1) = 2", "waiting(2,0) = 2", "waiting(2,1) = 0", "waiting(3,0) !8");
-        StringBuilder all = new StringBuilder("name s;").append(people(12, ""));
+        StringBuilder all = new StringBuilder("name s;").append(Check.people(12, ""));
         for (char c = 'l'; c >= 'a'; c--) {
             all.append("waits p").append(c).append(" for s;");
         }
@@ -467,11 +459,11 @@ public final class TermsTextTest {
     private static void faults6() {
         Check.says("6 a seventh name, a 13th person (at that WORD); a SURNAME without a free PLACE (at its NAME, behind of).");
         fault(6, "name a;name b;name c;name d;name e;name f;|name");
-        fault(6, people(12, "") + "|person");
+        fault(6, Check.people(12, "") + "|person");
         fault(6, "most 1;name s;name t;person a born 1700 of s;person b born 1700 of |s coins 1000;");
-        fault(6, "most 2;name s;" + people(2, " of s") + "person b born 1700 of |s;");
-        fault(6, "name s;" + people(9, " of s") + "person b born 1700 of |s;");
-        Rows.on("most 2;name s;name t;" + people(2, " of s") + "person b born 1700 of t;", "surname(0,1) = 0", "surname(1,1) = 1");
+        fault(6, "most 2;name s;" + Check.people(2, " of s") + "person b born 1700 of |s;");
+        fault(6, "name s;" + Check.people(9, " of s") + "person b born 1700 of |s;");
+        Rows.on("most 2;name s;name t;" + Check.people(2, " of s") + "person b born 1700 of t;", "surname(0,1) = 0", "surname(1,1) = 1");
     }
 
     private static void inPlaceOfThatAhead() {
