@@ -15,6 +15,10 @@ public final class QuotesTest {
     private static final Pattern QUOTE = Pattern.compile("Check\\.says\\(((?:\\s*\"(?:[^\"\\\\]|\\\\.)*\"\\s*\\+?)+)\\)");
 
     public static void main(String[] args) throws IOException {
+        if (!Files.isReadable(DOCUMENT)) {
+            System.out.println("no document at " + DOCUMENT + " to look quotes up in");
+            return;
+        }
         String text = sentences(Files.readString(DOCUMENT, StandardCharsets.UTF_8));
         boolean[] quoted = new boolean[text.length()];
         for (String quote : quotes()) {
