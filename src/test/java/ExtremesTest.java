@@ -4,9 +4,10 @@ import java.util.ArrayList;
 import java.util.Arrays;
 import java.util.List;
 
-/** Every call with every mixture of arguments at and beyond their bounds, held against the model. */
+/** Every call with mixtures of small, large and bordering arguments, held against the model: the fewer it has, the more values. */
 public final class ExtremesTest {
     private static final int[] FEW = {Integer.MIN_VALUE, -1, 0, 1, 3, Integer.MAX_VALUE};
+    private static final int[] SOME = {Integer.MIN_VALUE, -1, 0, 1, 2, 3, 4, 5, 6, 7, 12, 13, 16, 17, 60, 61, 999, 1000, Integer.MAX_VALUE};
     private static final int[] MORE = {Integer.MIN_VALUE, -2, -1, 0, 1, 2, 3, 4, 5, 6, 7, 8, 9, 10, 11, 12, 13, 16, 17, 20, 21, 59, 60, 61, 98, 99,
         100, 149, 150, 151, 299, 300, 301, 899, 900, 901, 998, 999, 1000, 9980, 9981, 9998, 9999, 10000, Integer.MAX_VALUE};
     private static final String TOWN = "most 2;life 90;name s worth 30;name t;name u worth 0;person a born 1730 of s coins 40;person b born 1740 of s;"
@@ -56,7 +57,7 @@ public final class ExtremesTest {
                 one(m, with, is);
             }
         } else {
-            for (int v : types.length > 2 ? FEW : MORE) {
+            for (int v : types.length > 3 ? FEW : types.length > 2 ? SOME : MORE) {
                 one(m, with, type == long.class ? (Object) (long) v : (Object) v);
             }
         }
